@@ -1017,65 +1017,74 @@ public final class SugarKitchen {
 
     /** Parts a few pieces into as many boxes as can be; a set of pieces is the int of its bits. */
     private static final class Parting {
+        private int least;
+        private int greatest;
         private int[] sums = new int[1];
-        private int[] most = new int[1];
+        // For a set: the fewest boxes that were sought in vain, 0 if none were.
+        private int[] vain = new int[1];
 
         int mostBoxes(int[] weights, int many, int least, int greatest) {
+            this.least = least;
+            this.greatest = greatest;
+            begin(weights, many);
+            for (int boxes = many; boxes > 0; boxes--) {
+                if (canFill((1 << many) - 1, boxes, many)) {
+                    return boxes;
+                }
+            }
+            return 0;
+        }
+
+        private void begin(int[] weights, int many) {
             int sets = 1 << many;
             if (sums.length < sets) {
                 sums = new int[sets];
-                most = new int[sets];
+                vain = new int[sets];
             }
             for (int i = 0; i < many; i++) {
                 int piece = 1 << i;
                 for (int others = 0; others < piece; others++) {
                     sums[piece | others] = sums[others] + weights[i];
-                    most[piece | others] = mostWith(piece, others, least, greatest);
+                    vain[piece | others] = 0;
                 }
             }
-            return most[sets - 1];
         }
 
-        /** One piece more makes one box more, or none: so only that one is sought. */
-        private int mostWith(int piece, int others, int least, int greatest) {
-            int without = most[others];
-            int more = without + 1;
-            int sum = sums[piece | others];
-            if (sum < more * least) {
-                return without;
+        /** Whether so many boxes can be filled from a set within the first few pieces. */
+        private boolean canFill(int set, int boxes, int few) {
+            if (boxes == 0) {
+                return true;
             }
-            if (canSpareOne(piece, others, more)) {
-                return more;
+            boolean wasVain = vain[set] != 0 && vain[set] <= boxes;
+            if (few <= 0 || wasVain || sums[set] < boxes * least) {
+                return false;
             }
-            if (sum > more * greatest) {
-                return without; // all of them are needed, and too heavy for so many boxes
+            int last = 1 << (few - 1);
+            int others = set & ~last;
+            boolean can = set != others && canFillWith(last, others, boxes, few - 1)
+                    || canFill(others, boxes, few - 1);
+            if (!can) {
+                vain[set] = boxes;
             }
-            return without == 0 || canPart(piece, others, least, greatest) ? more : without;
+            return can;
         }
 
-        private boolean canSpareOne(int piece, int others, int boxes) {
-            for (int spared = 1; spared < piece; spared <<= 1) {
-                if ((others & spared) != 0 && most[piece | others ^ spared] >= boxes) {
-                    return true;
-                }
-            }
-            return false;
-        }
-
-        /** Whether the piece fills a box with some others, and the rest of them as many as all. */
-        private boolean canPart(int piece, int others, int least, int greatest) {
-            int sum = sums[piece | others];
+        /** Whether the piece can fill one of the boxes with some others, and the rest the others. */
+        private boolean canFillWith(int piece, int others, int boxes, int few) {
             int rest = others;
-            while (rest > 0) { // rest falls each time
-                int box = sum - sums[rest];
+            for (int looks = 0; looks <= others; looks++) {
+                int box = sums[piece | others] - sums[rest];
                 int next = rest;
                 if (box >= least) {
-                    if (box <= greatest && most[rest] >= most[others]) {
+                    if (box <= greatest && canFill(rest, boxes - 1, few)) {
                         return true;
                     }
                     next = withoutLower(rest, others ^ rest);
                 }
-                rest = next == 0 ? 0 : (next - 1) & others;
+                if (next == 0) {
+                    return false;
+                }
+                rest = (next - 1) & others;
             }
             return false;
         }

@@ -166,6 +166,7 @@ public final class PromisesTest {
             due("its kind", x.batchOf(i, 0), i % 6);
         }
         due("batch 40", x.batch(0), NONE);
+        due("batchOf(40, 0)", x.batchOf(40, 0), NONE);
         due("about(1)", x.about(1), 40);
     }
 
@@ -821,6 +822,23 @@ public final class PromisesTest {
         byTrayThenPlace();
         firstForty();
         twoHundred();
+        everySum();
+    }
+
+    /** Each sum of two weights must be found, and no other. */
+    private static void everySum() {
+        for (int first = 10; first < 200; first++) {
+            for (int second : new int[] {10, 63, 64, 65, 126, 127, 128, 129}) {
+                SugarKitchen x = laidOut(first, second);
+                due("over " + first + " and " + second, x.would(15, first + second, 0, 0), 0);
+                due("over " + first + " and " + second, x.would(15, first + second - 1, 500, 0), 1);
+                due("more than " + first + " and " + second, x.pack(15, first + second + 1, 500), NONE);
+            }
+        }
+        SugarKitchen x = laidOut(2000, 2000, 2000, 2000);
+        due("over 8000", x.would(15, 7500, 500, 0), 500);
+        due("over 8000", x.would(15, 7500, 499, 0), NONE);
+        due("pack 8000", x.pack(15, 8000, 500), 0);
     }
 
     private static void byTrayThenPlace() {
