@@ -1,126 +1,39 @@
 /** One method a promise: ordinary inputs, the edges that the document names, and wrong inputs. */
-public final class PromisesTest {
-    private static final int NONE = SugarKitchen.NONE;
-    private static final int NO_TOP = NONE - 1000000;
-    private static final int MIN = Integer.MIN_VALUE;
-    private static final int MAX = Integer.MAX_VALUE;
-
-    private static int promise;
-    private static int asked;
-    private static int wrong;
-
-    private static void due(String call, int got, int want) {
-        asked++;
-        if (got != want) {
-            wrong++;
-            System.out.println("promise " + promise + ": " + call + " answered " + got + ", due is " + want);
-        }
-    }
-
-    private static void yes(String call, boolean got) {
-        due(call, got ? 1 : 0, 1);
-    }
-
-    private static void no(String call, boolean got) {
-        due(call, got ? 1 : 0, 0);
-    }
-
+public final class PromisesTest extends Checks {
     public static void main(String[] args) {
-        promise = 1; newObject();
-        promise = 2; lot();
-        promise = 3; batch();
-        promise = 4; put();
-        promise = 5; row();
-        promise = 6; tick();
-        promise = 7; stir();
-        promise = 8; table();
-        promise = 9; grain();
-        promise = 10; bounds();
-        promise = 11; cook();
-        promise = 12; vouch();
-        promise = 13; why();
-        promise = 14; batchOf();
-        promise = 15; temper();
-        promise = 16; heat();
-        promise = 17; cut();
-        promise = 18; dip();
-        promise = 19; place();
-        promise = 20; take();
-        promise = 21; allow();
-        promise = 22; pieceOf();
-        promise = 23; at();
-        promise = 24; pack();
-        promise = 25; would();
-        promise = 26; boxOf();
-        promise = 27; wash();
-        promise = 28; queue();
-        promise = 29; order();
-        promise = 30; recall();
-        promise = 31; about();
-        promise = 32; left();
-        System.out.println("promises: " + asked + " answers looked at, " + wrong + " not as due");
-        if (wrong != 0) {
-            System.exit(1);
-        }
-    }
-
-    // ---- kitchens to begin with
-
-    /** A batch of so much from a lot of its own, not cooked. */
-    private static int rawBatch(SugarKitchen x, int kind, int mass) {
-        int lot = x.lot(mass, 0);
-        int batch = x.batch(kind);
-        x.put(batch, lot, mass);
-        return batch;
-    }
-
-    /** A batch of so much from a lot of its own, cooked without a loss and vouched for. */
-    private static int goodBatch(SugarKitchen x, int kind, int mass) {
-        int batch = rawBatch(x, kind, mass);
-        x.cook(batch, 1);
-        x.vouch(batch);
-        return batch;
-    }
-
-    private static void readings(SugarKitchen x, int batch, float... row) {
-        x.row(batch, 0, row.length);
-        for (int i = 0; i < row.length; i++) {
-            x.tick(batch, i, Float.floatToRawIntBits(row[i]));
-        }
-    }
-
-    private static void stirrings(SugarKitchen x, int batch, int length, int... places) {
-        x.row(batch, 1, length);
-        for (int place : places) {
-            x.stir(batch, place, true);
-        }
-    }
-
-    /** The last reading of a batch of kind 0 that has only this one, cooked: its TOP. */
-    private static int topOf(int bits) {
-        SugarKitchen x = new SugarKitchen();
-        int batch = rawBatch(x, 0, 10);
-        x.row(batch, 0, 1);
-        x.tick(batch, 0, bits);
-        x.cook(batch, 1);
-        return x.batchOf(batch, 5);
-    }
-
-    private static void heatInto(SugarKitchen x, int coat) {
-        for (int degree : new int[] {450, 450, 270, 270, 310, 310}) {
-            x.heat(coat, degree);
-        }
-    }
-
-    /** Pieces of a CENTRE with these weights, on trays 0, 1, .. from place 0 on. */
-    private static SugarKitchen laidOut(int... weights) {
-        SugarKitchen x = new SugarKitchen();
-        int centre = goodBatch(x, 3, 1000000);
-        for (int i = 0; i < weights.length; i++) {
-            x.cut(centre, weights[i], 1);
-            x.place(i, i / 24, i % 24);
-        }
-        return x;
+        topic("promise 1"); newObject();
+        topic("promise 2"); lot();
+        topic("promise 3"); batch();
+        topic("promise 4"); put();
+        topic("promise 5"); row();
+        topic("promise 6"); tick();
+        topic("promise 7"); stir();
+        topic("promise 8"); table();
+        topic("promise 9"); grain();
+        topic("promise 10"); bounds();
+        topic("promise 11"); cook();
+        topic("promise 12"); vouch();
+        topic("promise 13"); why();
+        topic("promise 14"); batchOf();
+        topic("promise 15"); temper();
+        topic("promise 16"); heat();
+        topic("promise 17"); cut();
+        topic("promise 18"); dip();
+        topic("promise 19"); place();
+        topic("promise 20"); take();
+        topic("promise 21"); allow();
+        topic("promise 22"); pieceOf();
+        topic("promise 23"); at();
+        topic("promise 24"); pack();
+        topic("promise 25"); would();
+        topic("promise 26"); boxOf();
+        topic("promise 27"); wash();
+        topic("promise 28"); queue();
+        topic("promise 29"); order();
+        topic("promise 30"); recall();
+        topic("promise 31"); about();
+        topic("promise 32"); left();
+        end("PromisesTest");
     }
 
     // ---- the promises
