@@ -36,7 +36,7 @@ public final class BoxesEdgesTest extends Checks {
 
     // ---- which numbers may be
 
-    @Says("A box is packed by SORTS (1 .. 15)")
+    @Says({"SORTS (bit k for SORT k)", "A box is packed by SORTS (1 .. 15)"})
     static void packSorts() {
         for (int sorts : new int[] {0, 16, 17, 31, -1, MIN, MIN + 1, MAX}) {
             SugarKitchen x = eachSort();
@@ -134,15 +134,16 @@ public final class BoxesEdgesTest extends Checks {
     }
 
     @Says("Some of them whose weights together are at least WEIGHT, and at most OVER more")
-    static void sumsAboutTheWordsOfALong() {
-        for (int sum : new int[] {63, 64, 65, 127, 128, 129, 191, 192, 1023, 1024, 1025}) {
-            for (int first : new int[] {10, 31, 32, 33, sum - 10}) {
-                if (sum - first >= 10) {
-                    SugarKitchen x = laidOut(first, 2000, sum - first);
-                    due("over " + sum, x.would(15, sum, 0, 0), 0);
-                    due("pieces", x.would(15, sum, 0, 1), 2);
-                    due("over " + (sum - 1), x.would(15, sum - 1, 1, 0), 1);
-                    due("over " + (sum + 1), x.would(15, sum + 1, 500, 0), NONE);
+    static void eachSumAndNoOther() {
+        int[] weights = {10, 11, 62, 63, 64, 65, 66, 127, 128, 129};
+        for (int first : weights) {
+            for (int second : weights) {
+                SugarKitchen x = laidOut(first, second, 53);
+                int[] sums = {first, second, 53, first + second, first + 53, second + 53, first + second + 53};
+                for (int sum = 1; sum <= 320; sum++) {
+                    int wanted = sum;
+                    boolean is = Arrays.stream(sums).anyMatch(s -> s == wanted);
+                    due(sum + " of " + first + ", " + second + ", 53", x.would(15, sum, 0, 0), is ? 0 : NONE);
                 }
             }
         }
@@ -172,6 +173,10 @@ public final class BoxesEdgesTest extends Checks {
         packed(laidOut(20, 20, 20, 20, 20, 20), 15, 100, 0, 0, 1, 2, 3, 4);
         packed(laidOut(10, 90, 80, 20), 15, 100, 0, 0, 1);
         packed(laidOut(80, 10, 20, 10), 15, 100, 0, 0, 1, 3);
+        packed(laidOut(50, 100), 15, 100, 0, 1);
+        packed(laidOut(50, 100, 50), 15, 100, 0, 0, 2);
+        packed(laidOut(11, 10, 53), 15, 10, 0, 1);
+        packed(laidOut(40, 30, 20, 80), 15, 100, 0, 2, 3);
     }
 
     @Says("CHOICE: FIT pieces of these SORTS, by TRAY, then place, 40 at most.")
@@ -241,7 +246,7 @@ public final class BoxesEdgesTest extends Checks {
 
     // ---- pack refuses
 
-    @Says("NONE, changing nothing: other numbers, there are 200, or none can be.")
+    @Says({"BOXES 0 .. 199.", "NONE, changing nothing: other numbers, there are 200, or none can be."})
     static void boxesAreTwoHundred() {
         SugarKitchen x = new SugarKitchen();
         goodBatch(x, CENTRE, 1000000);
@@ -307,9 +312,10 @@ public final class BoxesEdgesTest extends Checks {
     @Says("FULL: how many boxes can be packed so one behind the other, until none can.")
     static void fullIsAsPackGoes() {
         int[][] rows = {{}, {100}, {99}, {50, 70, 50, 70}, {40, 60, 60, 40, 100, 99, 101},
-            {10, 20, 30, 40, 50, 60, 70, 80, 90}, {33, 33, 34, 67, 66, 99, 1000}, same(45, 25), same(50, 100)};
+            {10, 20, 30, 40, 50, 60, 70, 80, 90}, {33, 33, 34, 67, 66, 99, 1000}, {70, 100, 31},
+            {70, 99, 31, 101, 30}, same(45, 25), same(50, 100)};
         for (int[] weights : rows) {
-            for (int over : new int[] {0, 1, 30, 500}) {
+            for (int over : new int[] {0, 1, 2, 30, 500}) {
                 SugarKitchen x = laidOut(weights);
                 int full = x.would(15, 100, over, 2);
                 for (int i = 0; i < full; i++) {
@@ -319,6 +325,17 @@ public final class BoxesEdgesTest extends Checks {
                 due("pack beyond FULL", x.pack(15, 100, over), NONE);
             }
         }
+    }
+
+    @Says("FULL: how many boxes can be packed so one behind the other, until none can.")
+    static void fullOfSome() {
+        due("nothing", new SugarKitchen().would(15, 1, 500, 2), 0);
+        due("one", laidOut(100).would(15, 100, 0, 2), 1);
+        due("one too light", laidOut(99).would(15, 100, 500, 2), 0);
+        due("one too heavy", laidOut(151).would(15, 100, 50, 2), 0);
+        due("the first one goes into the second box", laidOut(70, 100, 31).would(15, 100, 1, 2), 2);
+        due("the first one is left", laidOut(70, 100, 31).would(15, 100, 0, 2), 1);
+        due("the last one is left", laidOut(100, 40, 60, 70).would(15, 100, 0, 2), 2);
     }
 
     @Says("FULL: how many boxes can be packed so one behind the other, until none can.")
@@ -383,7 +400,7 @@ public final class BoxesEdgesTest extends Checks {
 
     // ---- would and boxOf
 
-    @Says("NONE for other numbers; of 0, 1 also if none can be.")
+    @Says({"4 how many are to choose from.", "NONE for other numbers; of 0, 1 also if none can be."})
     static void wouldOfOthers() {
         SugarKitchen x = laidOut(100, 200);
         for (int what : new int[] {-1, 5, MIN, MAX}) {

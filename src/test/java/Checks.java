@@ -26,7 +26,7 @@ abstract class Checks {
     /** The document's words that a test is for. */
     @Retention(RetentionPolicy.RUNTIME)
     @interface Says {
-        String value();
+        String[] value();
     }
 
     static void topic(String next) {
@@ -62,7 +62,7 @@ abstract class Checks {
     }
 
     private static void runOne(Method method) {
-        topic = method.getName() + " (" + method.getAnnotation(Says.class).value() + ")";
+        topic = method.getName() + " (" + String.join(" / ", method.getAnnotation(Says.class).value()) + ")";
         int before = asked;
         try {
             method.setAccessible(true);

@@ -80,7 +80,7 @@ public final class CookingEdgesTest extends Checks {
         }
     }
 
-    @Says("NONE for others, or if there are 40.")
+    @Says({"LOTS 0 .. 39", "NONE for others, or if there are 40."})
     static void lotsAreForty() {
         SugarKitchen x = new SugarKitchen();
         for (int i = 0; i < 40; i++) {
@@ -113,7 +113,7 @@ public final class CookingEdgesTest extends Checks {
         due("batchOf(6, 0)", x.batchOf(6, 0), NONE);
     }
 
-    @Says("NONE: no such KIND, or there are 40.")
+    @Says({"BATCHES 0 .. 39, each of a KIND", "NONE: no such KIND, or there are 40."})
     static void batchesAreForty() {
         SugarKitchen x = new SugarKitchen();
         for (int i = 0; i < 40; i++) {
@@ -552,7 +552,7 @@ public final class CookingEdgesTest extends Checks {
         due("ends", x.batchOf(cookedBatch(x, SYRUP, row(3e38f, -3e38f)), 5), MAX);
     }
 
-    @Says("TOP is the greatest DEGREE read (none: NONE has no TOP).")
+    @Says({"5 TOP (NONE - 1000000 without)", "TOP is the greatest DEGREE read (none: NONE has no TOP)."})
     static void noTop() {
         SugarKitchen x = new SugarKitchen();
         x.table(MIN, 900);
@@ -615,7 +615,7 @@ public final class CookingEdgesTest extends Checks {
         due("MASS", x.batchOf(most, 1), 100);
     }
 
-    @Says("NONE, changing nothing, for others, or if there are 16.")
+    @Says({"by a TABLE of up to 16 degrees, rising", "NONE, changing nothing, for others, or if there are 16."})
     static void tableIsSixteen() {
         SugarKitchen x = new SugarKitchen();
         for (int i = 1; i <= 16; i++) {
@@ -839,7 +839,7 @@ public final class CookingEdgesTest extends Checks {
         }
     }
 
-    @Says("LOSS within the two BOUNDS of its KIND (at first 0 and 900)")
+    @Says({"Why a batch isn't GOOD (by now)", "LOSS within the two BOUNDS of its KIND (at first 0 and 900)"})
     static void lossWithinBounds() {
         SugarKitchen x = new SugarKitchen();
         x.table(10, 300);
@@ -883,7 +883,7 @@ public final class CookingEdgesTest extends Checks {
         }
     }
 
-    @Says("Or it was cooked and a hand has VOUCHED for it.")
+    @Says({"0 it is (also vouched for)", "Or it was cooked and a hand has VOUCHED for it."})
     static void goodByAHand() {
         SugarKitchen x = new SugarKitchen();
         x.grain(80, 80);

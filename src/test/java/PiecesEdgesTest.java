@@ -112,7 +112,7 @@ public final class PiecesEdgesTest extends Checks {
         due("LOST", x.batchOf(batch, 3), 900);
     }
 
-    @Says("and there are numbers left: how many.")
+    @Says({"PIECES 0 .. 599 of CENTRES and NUTS", "and there are numbers left: how many."})
     static void piecesAreSixHundred() {
         SugarKitchen x = loose(0);
         for (int i = 0; i < 6; i++) {
@@ -164,7 +164,7 @@ public final class PiecesEdgesTest extends Checks {
 
     // ---- dip
 
-    @Says("A piece that is in no box, not dipped")
+    @Says({"Dipped once at most, in TEMPER or not.", "A piece that is in no box, not dipped"})
     static void dipOfNone() {
         SugarKitchen x = loose(3);
         for (int number : new int[] {-1, 3, 600, MIN, MAX}) {
@@ -383,7 +383,8 @@ public final class PiecesEdgesTest extends Checks {
 
     // ---- allow, fit, sort
 
-    @Says("A hand allows a piece that was not dipped in TEMPER: true. False: no such piece, or it isn't one.")
+    @Says({"4 whether it is ALLOWED",
+        "A hand allows a piece that was not dipped in TEMPER: true. False: no such piece, or it isn't one."})
     static void allowOfOthers() {
         SugarKitchen x = loose(3);
         for (int number : new int[] {-1, 3, 600, MIN, MAX}) {

@@ -139,6 +139,28 @@ public final class QueueEdgesTest extends Checks {
         ordered(x, false, 0, 1, 0);
     }
 
+    @Says("A batch NONE: the QUEUE is empty: 0.")
+    static void queueEmptiedForgetsMinutesAndNuts() {
+        SugarKitchen x = waiting(NUT, SYRUP, COAT);
+        for (int i = 0; i < 36; i++) {
+            x.wash(i / 6, i % 6, 5);
+        }
+        ordered(x, false, 10, 0, 1, 2);
+        ordered(x, true, 10, 1, 2, 0);
+        x.queue(NONE);
+        ordered(x, false, 0);
+        ordered(x, true, 0);
+        x.queue(1);
+        x.queue(2);
+        ordered(x, true, 5, 1, 2);
+        x.queue(NONE);
+        x.queue(2);
+        x.queue(0);
+        x.queue(1);
+        ordered(x, true, 10, 2, 1, 0);
+        ordered(x, false, 10, 2, 0, 1);
+    }
+
     @Says("THE QUEUE: up to 10 batches, none twice.")
     static void queueOfRawAndCooked() {
         SugarKitchen x = new SugarKitchen();
@@ -152,7 +174,8 @@ public final class QueueEdgesTest extends Checks {
 
     // ---- order
 
-    @Says("NONE if there is none such (of an empty QUEUE the minutes are 0).")
+    @Says({"its minutes (i NONE), or its i-th batch.",
+        "NONE if there is none such (of an empty QUEUE the minutes are 0)."})
     static void orderOfNone() {
         SugarKitchen x = new SugarKitchen();
         ordered(x, false, 0);

@@ -362,7 +362,8 @@ public final class RandomRunsTest {
             int c;
             switch (stage) {
                 case 14:
-                    a = range(0, 5); b = random.nextInt(3) == 0 ? range(0, 300) : 0; c = random.nextInt(2) == 0 ? range(0, 900) : 900;
+                    a = range(0, 5); b = random.nextInt(3) == 0 ? range(0, 300) : 0;
+                    c = random.nextInt(2) == 0 ? range(0, 900) : 900;
                     name[0] = "bounds(" + a + ", " + b + ", " + c + ")";
                     return two(x.bounds(a, b, c), slow.bounds(a, b, c));
                 case 15:

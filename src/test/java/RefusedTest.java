@@ -104,7 +104,8 @@ public final class RefusedTest extends Checks {
     }
 
     private static void askPacking(Calls k, List<Integer> answers) {
-        int[][] ways = {{15, 100, 0}, {15, 100, 500}, {1, 100, 0}, {2, 90, 100}, {4, 115, 10}, {15, 390, 500}, {8, 1, 500}};
+        int[][] ways = {{15, 100, 0}, {15, 100, 500}, {1, 100, 0}, {2, 90, 100}, {4, 115, 10}, {15, 390, 500},
+            {8, 1, 500}};
         for (int[] way : ways) {
             for (int what = 0; what <= 4; what++) {
                 answers.add(k.call("would", way[0], way[1], way[2], what));
@@ -287,7 +288,8 @@ public final class RefusedTest extends Checks {
 
     @Says("NONE for others, or if there are 40.")
     static void refusedLot() {
-        refusedNone("lot", of(-1, 0), of(1000001, 0), of(0, -1), of(0, 256), of(MIN, 0), of(MAX, 0), of(0, MIN), of(0, MAX));
+        refusedNone("lot", of(-1, 0), of(1000001, 0), of(0, -1), of(0, 256), of(MIN, 0), of(MAX, 0),
+                of(0, MIN), of(0, MAX));
     }
 
     @Says("NONE: no such KIND, or there are 40.")
@@ -358,7 +360,8 @@ public final class RefusedTest extends Checks {
 
     @Says("how many. NONE for others.")
     static void refusedCut() {
-        refusedNone("cut", of(-1, 100, 1), of(11, 100, 1), of(MIN, 100, 1), of(MAX, 100, 1), of(0, 9, 1), of(0, 2001, 1),
+        refusedNone("cut", of(-1, 100, 1), of(11, 100, 1), of(MIN, 100, 1), of(MAX, 100, 1), of(0, 9, 1),
+                of(0, 2001, 1),
                 of(0, MIN, 1), of(0, MAX, 1), of(0, 100, 0), of(0, 100, 100), of(0, 100, -1), of(0, 100, MIN),
                 of(0, 100, MAX), of(2, 100, 1), of(5, 100, 1), of(8, 10, 1), of(9, 10, 1), of(10, 10, 1));
     }
